@@ -107,6 +107,7 @@ public final class PairsTest {
     Check.due("fourth", 8, d.pair(0, a, pop));
     Check.due("another", 0, d.pair(0, a, paint));
     Check.due("the first again", 0, d.pair(0, a, pop));
+    Check.due("another first sign", 0, d.pair(0, Caption.right(17), pop));
     Check.due("other channel", 1, d.pair(0, Caption.right(28), pop));
     Check.due("back", 0, d.pair(0, a, pop));
     Check.due("other field", 2, d.pair(1, a, pop));
@@ -357,6 +358,13 @@ public final class PairsTest {
     Check.due("from 32 to 31", 31, c.state(2));
     Check.due("31 is empty", 0, c.shown(1, 31));
     Check.due("30 is not", 'y', c.shown(1, 30));
+    c.row(2, 0, false);
+    c.letters("k");
+    c.code(20, 33);
+    Check.due("from 1 to 0", 0, c.state(2));
+    Check.due("0 is empty", 0, c.shown(2, 0));
+    c.row(1, 15, false);
+    c.code(23, 35);
     c.pop();
     c.letters("h");
     c.code(21, 33);
@@ -375,10 +383,12 @@ public final class PairsTest {
     c.row(4, 8, false);
     c.code(20, 36);
     Check.isTrue("not at column 0", c.rowText(0, 4).equals("abcdefghij"));
+    c.row(5, 0, false);
+    c.letters("below");
     c.row(4, 9, true);
     c.code(20, 36);
     Check.isTrue("from the column on", c.rowText(0, 4).equals("abcd"));
-    Check.isTrue("no other row", c.rowText(0, 3).equals("above!"));
+    Check.isTrue("no other row", c.rowText(0, 3).equals("above!") && c.rowText(0, 5).equals("below"));
     Check.due("the column stays", 4, c.state(2));
     Check.due("the look stays", 8, c.state(3));
     c.row(3, 9, false);
@@ -393,6 +403,10 @@ public final class PairsTest {
     c.letters("wxyz");
     c.code(20, 36);
     Check.due("nothing is behind 32", 'z', c.shown(3, 31));
+    c.row(5, 0, false);
+    c.code(23, 33);
+    c.code(20, 36);
+    Check.isTrue("from column 1", c.rowText(0, 5).equals("b"));
   }
 
   private static void rollBegins() {
@@ -438,6 +452,9 @@ public final class PairsTest {
     Check.due("the row is 4 at least", 4, c.state(1));
     Check.isTrue("rows stay there", c.rowText(0, 1).equals("c") && c.rowText(0, 2).equals("xx"));
     Check.isTrue("nothing comes", c.rowText(0, 3).isEmpty() && c.rowText(0, 4).isEmpty());
+    c.roll(3);
+    Check.isTrue("row 1 is above three rows that end at 4", c.rowText(0, 1).isEmpty());
+    Check.isTrue("row 2 is one of them", c.rowText(0, 2).equals("xx"));
   }
 
   private static void rollUp() {

@@ -535,7 +535,7 @@ public final class CaptionDesk {
     }
 
     private void eraseCells(int from, int to) {
-      for (int i = Math.max(from, 0); i < to && i < ROWS * COLUMNS; i++) {
+      for (int i = from; i >= 0 && i < to && i < ROWS * COLUMNS; i++) {
         letters[i] = 0;
         looks[i] = 0;
       }
