@@ -64,6 +64,20 @@ final class Caption {
     return code(x[row - 1], 64 + (second ? 32 : 0) + 2 * k + (underlined ? 1 : 0));
   }
 
+  /** The place is a row and a column 0 .. 31, LOOK 0. */
+  void goTo(int row, int column) {
+    row(row, 8 + column / 4, false);
+    if (column % 4 > 0) {
+      code(23, 32 + column % 4);
+    }
+  }
+
+  /** The column is 32; the row's last cell has this letter. */
+  void fillLast(int row, String letter) {
+    goTo(row, 31);
+    letters(letter);
+  }
+
   int shown(int row, int column) {
     return desk.cell(2 * field, 0, row, column, 0);
   }
@@ -86,5 +100,18 @@ final class Caption {
 
   int state(int what) {
     return desk.state(2 * field, what);
+  }
+
+  void stateIs(String what, int mode, int row, int column, int look, int depth) {
+    int[] want = {mode, row, column, look, depth};
+    String[] names = {"MODE", "row", "column", "LOOK", "DEPTH"};
+    for (int i = 0; i < want.length; i++) {
+      Check.due(what + ": " + names[i], want[i], state(i));
+    }
+  }
+
+  void rowIs(String what, int screen, int row, String want) {
+    String got = rowText(screen, row);
+    Check.isTrue(what + ": row " + row + " is '" + got + "', due is '" + want + "'", got.equals(want));
   }
 }

@@ -1,3 +1,5 @@
+import java.util.function.IntUnaryOperator;
+
 /** Counts answers that are not the ones that are due, and ends a test by them. */
 final class Check {
   private static int calls = 0;
@@ -37,6 +39,25 @@ final class Check {
 
   static void outside(String what, Call call) {
     throwing(what, IndexOutOfBoundsException.class, call);
+  }
+
+  /** Both ends of low .. high answer; what is one outside them, or far outside, is refused. */
+  static void range(String what, int low, int high, Class<?> refusal, IntUnaryOperator call) {
+    for (int i : new int[] {low, high}) {
+      calls++;
+      try {
+        call.applyAsInt(i);
+      } catch (RuntimeException e) {
+        tellWrong(what + " " + i + " threw " + e.getClass().getName());
+      }
+    }
+    for (int i : new int[] {low - 1, high + 1, Integer.MIN_VALUE, Integer.MAX_VALUE}) {
+      throwing(what + " " + i, refusal, () -> call.applyAsInt(i));
+    }
+  }
+
+  static void indexes(String what, int low, int high, IntUnaryOperator call) {
+    range(what, low, high, IndexOutOfBoundsException.class, call);
   }
 
   static void end(String test) {

@@ -68,6 +68,13 @@ final class Packets {
     return bytes;
   }
 
+  /** A packet of a text row whose forty bytes all have the same sign. */
+  static int[] rowOf(int magazine, int row, int sign) {
+    int[] bytes = blank(magazine, row);
+    Arrays.fill(bytes, 2, 42, Caption.right(sign));
+    return bytes;
+  }
+
   static int number(int[] bytes, int i) {
     int n = 0;
     for (int k = 0; k < 4; k++) {
