@@ -148,7 +148,7 @@ public final class CodeEdgesTest {
   }
 
   /**
-   * "y 64 .. 127: ROW: by x 17, 18, 21, 22, 23, 16, 19, 20: 1, 3, 5, 7, 9, 11, 12, 14, and one more
+   * "y 64 .. 127", "ROW: by x 17, 18, 21, 22, 23, 16, 19, 20: 1, 3, 5, 7, 9, 11, 12, 14, and one more
    * with bit 32 of y."
    */
   private static void rowCodeSigns() {
@@ -424,7 +424,7 @@ public final class CodeEdgesTest {
     }
   }
 
-  /** "1: the column is one less, its cell is empty (not at column 0" */
+  /** "1: the column is one less, its cell", "is empty (not at column 0" */
   private static void eraseBackColumns() {
     for (int mode = POP; mode <= PAINT; mode++) {
       int screen = mode == POP ? 1 : 0;

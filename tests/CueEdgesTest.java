@@ -161,7 +161,7 @@ public final class CueEdgesTest {
     Check.due("the end", 3, c.desk.cue(0, 2));
   }
 
-  /** "of each row that is not empty of letters but 32 and below" */
+  /** "of each row", "that is not empty of letters but 32 and below" */
   private static void emptyRows() {
     Check.due("an empty screen", 0, shownOnce("").cues());
     Check.due("one space", 0, shownOnce(" ").cues());

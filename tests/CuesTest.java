@@ -1,7 +1,6 @@
-/** Promises 16 to 20: what is watched, ticks, cues and their lines. */
+/** Cues as they come and go: ordinary runs for promises 16 to 20. CueEdgesTest has the edges. */
 public final class CuesTest {
   public static void main(String[] args) {
-    ticks();
     cueOfChannel();
     hiddenIsNoSource();
     linesOfScreen();
@@ -10,13 +9,10 @@ public final class CuesTest {
     sameLines();
     sourcesInOrder();
     linesLimit();
-    linesLimitOfPage();
-    cueLimit();
     watchedPage();
     watchAgain();
     watchedSubcodes();
     pageLines();
-    wrongInputs();
     Check.end("CuesTest");
   }
 
@@ -33,17 +29,6 @@ public final class CuesTest {
     Check.due("begin of " + i, begin, d.cue(i, 1));
     Check.due("end of " + i, end, d.cue(i, 2));
     Check.isTrue("lines of " + i + ": " + lines, text(d, i).equals(lines));
-  }
-
-  private static void ticks() {
-    CaptionDesk d = new CaptionDesk();
-    Check.due("1", 1, d.tick(1));
-    Check.due("100001", 100001, d.tick(100000));
-    for (int n : new int[] {0, -1, 100001, Integer.MIN_VALUE, Integer.MAX_VALUE}) {
-      Check.throwing("tick " + n, IllegalArgumentException.class, () -> d.tick(n));
-    }
-    Check.due("the time stayed", 100003, d.tick(2));
-    Check.due("no cues", 0, d.cues());
   }
 
   private static void cueOfChannel() {
@@ -208,52 +193,6 @@ public final class CuesTest {
     Check.due("byte 396 counts", 2, c.desk.cues());
   }
 
-  private static void linesLimitOfPage() {
-    CaptionDesk d = new CaptionDesk();
-    d.watch(1, 1);
-    Packets.send(d, Packets.header(1, 1, 0));
-    StringBuilder full = new StringBuilder();
-    for (int i = 0; i < 40; i++) {
-      full.append('x');
-    }
-    for (int row = 1; row <= 9; row++) {
-      Packets.send(d, Packets.text(1, row, full.toString()));
-    }
-    Packets.send(d, Packets.text(1, 10, full.substring(0, 30)));
-    Packets.send(d, Packets.header(1, 1, 0));
-    d.tick(1);
-    Check.due("just 400", 400, d.cue(0, 3));
-    Check.due("its end", 10, d.line(0, 399));
-    Packets.send(d, Packets.text(1, 10, full.substring(0, 31)));
-    Packets.send(d, Packets.header(1, 1, 0));
-    d.tick(1);
-    Check.due("401 is cut", 400, d.cue(1, 3));
-    Check.due("no end", 'x', d.line(1, 399));
-  }
-
-  private static void cueLimit() {
-    Caption c = new Caption(0);
-    Caption unused = new Caption(1);
-    Check.due("apart", 0, unused.desk.cues());
-    c.paint();
-    for (int i = 0; i < 60; i++) {
-      c.row(1, 0, false);
-      c.letters("" + (char) (40 + i));
-      c.desk.tick(1);
-      Check.due("cues", i + 1, c.desk.cues());
-    }
-    c.row(1, 0, false);
-    c.letters("z");
-    c.desk.tick(1);
-    Check.due("no more than 60", 60, c.desk.cues());
-    Check.due("the last one ends", 61, c.desk.cue(59, 2));
-    c.desk.tick(1);
-    Check.due("it has ended", 61, c.desk.cue(59, 2));
-    cueIs(c.desk, 0, 0, 1, 2, "(\n");
-    Check.outside("no cue 60", () -> c.desk.cue(60, 0));
-    Check.outside("no line of it", () -> c.desk.line(60, 0));
-  }
-
   private static void watchedPage() {
     CaptionDesk d = new CaptionDesk();
     Packets.send(d, Packets.header(1, 136, 0));
@@ -349,31 +288,5 @@ public final class CuesTest {
     Packets.send(d, Packets.header(1, 1, 0));
     d.tick(1);
     cueIs(d, 0, 4, 1, -1, "a b c\nz\n");
-  }
-
-  private static void wrongInputs() {
-    Caption c = new Caption(0);
-    CaptionDesk d = c.desk;
-    Check.outside("cue of none", () -> d.cue(0, 0));
-    Check.outside("line of none", () -> d.line(0, 0));
-    c.paint();
-    c.letters("A");
-    d.tick(1);
-    for (int i : new int[] {-1, Integer.MIN_VALUE, Integer.MAX_VALUE, 1000}) {
-      Check.outside("cue", () -> d.cue(i, 0));
-      Check.outside("cue what", () -> d.cue(0, i));
-      Check.outside("line", () -> d.line(i, 0));
-      Check.outside("line k", () -> d.line(0, i));
-      Check.throwing("watch magazine", IllegalArgumentException.class, () -> d.watch(i, 0));
-      Check.throwing("watch number", IllegalArgumentException.class, () -> d.watch(1, i));
-    }
-    Check.outside("cue 1", () -> d.cue(1, 0));
-    Check.outside("cue what 4", () -> d.cue(0, 4));
-    Check.outside("line 1", () -> d.line(1, 0));
-    Check.outside("line k 2", () -> d.line(0, 2));
-    Check.throwing("magazine 0", IllegalArgumentException.class, () -> d.watch(0, 1));
-    Check.throwing("magazine 9", IllegalArgumentException.class, () -> d.watch(9, 1));
-    Check.throwing("number 255", IllegalArgumentException.class, () -> d.watch(1, 255));
-    Check.due("number 254", 1, d.watch(8, 254));
   }
 }

@@ -65,7 +65,7 @@ public final class PacketEdgesTest {
     };
   }
 
-  /** "A GUARDED byte with bits 1 .. 8 has four sums" and what follows, for each of the 256 bytes. */
+  /** "A GUARDED byte with bits 1 .. 8 (1 the lowest) has four sums" and what follows, for each of the 256 bytes. */
   private static void everyGuardedByte() {
     for (int b = 0; b < 256; b++) {
       boolean a = isSumOdd(b, 8, 6, 2, 1);
@@ -307,7 +307,7 @@ public final class PacketEdgesTest {
     Check.due("all FLAGS", 15, d.page(0, 3));
   }
 
-  /** "FLAGS: 1 ERASE, 2 NEWS, 4 SUBTITLE, 8 SERIAL"; "3 FLAGS of its latest header" */
+  /** "FLAGS: 1 ERASE", "2 NEWS", "4 SUBTITLE", "8 SERIAL"; "3 FLAGS of its latest header" */
   private static void headerFlags() {
     CaptionDesk d = new CaptionDesk();
     for (int flags = 15; flags >= 0; flags--) {
@@ -382,7 +382,7 @@ public final class PacketEdgesTest {
     }
   }
 
-  /** "ROW 1 .. 24: of the page that is OPEN in its MAGAZINE: its row: bytes 2 .. 41 as text." */
+  /** "ROW 1 .. 24: of the page that is OPEN in its MAGAZINE", "its row: bytes 2 .. 41 as text." */
   private static void textEdges() {
     for (int row : new int[] {1, 2, 12, 23, 24}) {
       CaptionDesk d = withPage(1, 1);

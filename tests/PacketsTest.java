@@ -1,30 +1,22 @@
-/** Promises 6 to 15: guarded bytes, the tape, packets, and the store of pages. */
+/** Pages as they come: ordinary runs for promises 6 to 15. PacketEdgesTest and StoreEdgesTest have the edges. */
 public final class PacketsTest {
   private static final int[] G = Packets.GUARDED;
 
   public static void main(String[] args) {
     guardedBytes();
-    tape();
     tapeBytes();
-    wrongAddresses();
-    rowNumbers();
-    wrongHeaders();
     headers();
     headerText();
     closing();
-    number255();
     serialHeaders();
     erase();
     rowText();
     rowsWithoutPage();
     links();
-    linkMagazines();
-    spoiltLinks();
     storeOrder();
     storeLimit();
     openPageGoes();
     find();
-    wrongInputs();
     Check.end("PacketsTest");
   }
 
@@ -48,22 +40,6 @@ public final class PacketsTest {
     Check.due("more than a byte", 5, e.guarded(G[5] | 0x12345600));
   }
 
-  private static void tape() {
-    CaptionDesk d = new CaptionDesk();
-    Class<?> state = IllegalStateException.class;
-    Check.throwing("no tape", state, () -> d.packet());
-    Check.due("20", 20, d.feed(0, 0, 0, 0, 0));
-    Check.throwing("20 bytes", state, () -> d.packet());
-    Check.due("40: the tape stayed", 40, d.feed(0, 0, 0, 0, 0));
-    Check.throwing("40 bytes", state, () -> d.packet());
-    Check.due("60", 60, d.feed(0, 0, 0, 0, 0));
-    Check.throwing("80", state, () -> d.feed(0, 0, 0, 0, 0));
-    Check.throwing("80 again", state, () -> d.feed(-1, -1, -1, -1, -1));
-    Check.due("a packet, p is mended to 1", 2, d.packet());
-    Check.throwing("the tape is empty", state, () -> d.packet());
-    Check.due("20 again", 20, d.feed(0, 0, 0, 0, 0));
-  }
-
   private static void tapeBytes() {
     CaptionDesk d = new CaptionDesk();
     Packets.send(d, Packets.header(1, 0, 0));
@@ -75,58 +51,6 @@ public final class PacketsTest {
     for (int i = 0; i < 40; i++) {
       Check.due("byte " + i, 33 + i, d.sign(0, 5, i));
     }
-  }
-
-  private static void wrongAddresses() {
-    CaptionDesk d = new CaptionDesk();
-    Packets.send(d, Packets.header(1, 0, 0));
-    Check.due("p WRONG", -1, Packets.send(d, Packets.with(Packets.text(1, 1, "x"), 0, Packets.WRONG)));
-    Check.due("q WRONG", -1, Packets.send(d, Packets.with(Packets.text(1, 1, "x"), 1, Packets.WRONG)));
-    Check.due("both count", 2, d.nothing(0));
-    Check.due("nothing came", 0, d.sign(0, 1, 0));
-    Check.throwing("the tape is empty", IllegalStateException.class, () -> d.packet());
-    int[] mended = Packets.text(1, 1, "x");
-    mended[0] ^= 64;
-    mended[1] ^= 1;
-    Check.due("one bit each", 1, Packets.send(d, mended));
-    Check.due("it came", 'x', d.sign(0, 1, 0));
-    Check.due("still two", 2, d.nothing(0));
-  }
-
-  private static void rowNumbers() {
-    CaptionDesk d = new CaptionDesk();
-    int without = 0;
-    for (int row = 1; row < 32; row++) {
-      Check.due("row " + row, row, Packets.send(d, Packets.blank(1 + row % 8, row)));
-      without += row <= 24 || row == 27 ? 1 : 0;
-      Check.due("without a page, row " + row, without, d.nothing(2));
-    }
-    Check.due("no pages", 0, d.pages());
-    Packets.send(d, Packets.header(1, 0, 0));
-    for (int row = 25; row < 32; row++) {
-      Packets.send(d, Packets.blank(1, row));
-    }
-    Check.due("none more", without, d.nothing(2));
-    Check.due("none of the others", 0, d.nothing(0) + d.nothing(1));
-  }
-
-  private static void wrongHeaders() {
-    CaptionDesk d = new CaptionDesk();
-    Packets.send(d, Packets.header(1, 1, 0));
-    for (int i = 2; i < 10; i++) {
-      Check.due("row 0", 0, Packets.send(d, Packets.with(Packets.header(1, 2, 0, 8), i, Packets.WRONG)));
-      Check.due("counted", i - 1, d.nothing(1));
-    }
-    Check.due("the page is OPEN still", 0, d.open(1));
-    Check.due("one page", 1, d.pages());
-    Check.due("not CLOSED", 0, d.page(0, 5));
-    for (int i = 2; i < 10; i++) {
-      int[] bytes = Packets.header(1, 2, 0);
-      bytes[i] ^= 1 << i - 2;
-      Packets.send(d, bytes);
-    }
-    Check.due("mended ones come", 8, d.page(1, 6));
-    Check.due("none counted", 8, d.nothing(1));
   }
 
   private static void headers() {
@@ -199,22 +123,6 @@ public final class PacketsTest {
     Check.due("the old one is back, at the end", 3, d.open(1));
     Check.due("its headers", 2, d.page(3, 6));
     Check.due("its closings", 1, d.page(3, 5));
-  }
-
-  private static void number255() {
-    CaptionDesk d = new CaptionDesk();
-    Packets.send(d, Packets.header(1, 1, 0));
-    Packets.send(d, Packets.header(2, 1, 0));
-    Check.due("255", 0, Packets.send(d, Packets.header(1, 255, 0)));
-    Check.due("no page of it", 2, d.pages());
-    Check.due("closed", -1, d.open(1));
-    Check.due("the other one not", 1, d.open(2));
-    Packets.send(d, Packets.text(1, 1, "x"));
-    Check.due("a row without a page", 1, d.nothing(2));
-    Packets.send(d, Packets.header(3, 255, 0, 8));
-    Check.due("all closed", -1, d.open(2));
-    Check.due("closed once", 1, d.page(0, 5));
-    Check.due("nothing else counted", 0, d.nothing(1));
   }
 
   private static void serialHeaders() {
@@ -326,53 +234,6 @@ public final class PacketsTest {
     Check.due("byte 2 is 0", 0, d.link(0, 0, 1));
   }
 
-  private static void linkMagazines() {
-    for (int m = 1; m <= 8; m++) {
-      CaptionDesk d = new CaptionDesk();
-      Packets.send(d, Packets.header(m, 1, 0));
-      for (int x = 0; x < 8; x++) {
-        int want = (m ^ x) % 8;
-        Packets.send(d, Packets.withLink(Packets.links(m), 2, 0, 0, 0, x % 2 * 8 + 7, 0, x / 2 * 4));
-        Check.due("the lowest values", want == 0 ? 8 : want, d.link(0, 2, 0));
-        Check.due("their subcode", 112, d.link(0, 2, 2));
-        Packets.send(d, Packets.withLink(Packets.links(m), 2, 0, 0, 0, x % 2 * 8, 0, x / 2 * 4 + 3));
-        Check.due("magazine " + m + " with " + x, want == 0 ? 8 : want, d.link(0, 2, 0));
-        Check.due("subcode", 6144, d.link(0, 2, 2));
-      }
-    }
-  }
-
-  private static void spoiltLinks() {
-    CaptionDesk d = new CaptionDesk();
-    Packets.send(d, Packets.header(1, 1, 0));
-    Packets.send(d, Packets.with(Packets.links(1), 3, Packets.WRONG));
-    Check.due("no link 0", -1, d.link(0, 0, 0));
-    Check.due("link 1", 1, d.link(0, 1, 0));
-    for (int i = 0; i < 36; i++) {
-      spoilLinkByte(i);
-    }
-    Check.due("bytes behind the links are free", 27,
-        Packets.send(d, Packets.with(Packets.links(1), 39, Packets.WRONG)));
-    Check.due("all came", 0, d.link(0, 0, 1));
-  }
-
-  private static void spoilLinkByte(int i) {
-    CaptionDesk d = new CaptionDesk();
-    Packets.send(d, Packets.header(1, 1, 0));
-    int[] bytes = Packets.links(1);
-    for (int k = 0; k < 6; k++) {
-      Packets.withLink(bytes, k, 1, 1, 1, 9, 1, 5);
-    }
-    Packets.send(d, bytes);
-    Packets.send(d, Packets.with(Packets.links(1), 3 + i, Packets.WRONG));
-    for (int k = 0; k < 6; k++) {
-      boolean stays = k == i / 6;
-      Check.due("magazine", stays ? 2 : 1, d.link(0, k, 0));
-      Check.due("number", stays ? 17 : 0, d.link(0, k, 1));
-      Check.due("subcode", stays ? 1 + 16 + 128 + 2048 : 0, d.link(0, k, 2));
-    }
-  }
-
   private static void storeOrder() {
     CaptionDesk d = new CaptionDesk();
     for (int i = 0; i < 5; i++) {
@@ -468,38 +329,5 @@ public final class PacketsTest {
     Packets.send(d, Packets.header(1, 1, 3));
     Check.due("the latest header", 2, d.find(1, 1, -1));
     Check.due("4 is first now", 0, d.find(1, 1, 4));
-  }
-
-  private static void wrongInputs() {
-    CaptionDesk d = new CaptionDesk();
-    Check.outside("page of none", () -> d.page(0, 0));
-    Check.outside("sign of none", () -> d.sign(0, 0, 0));
-    Check.outside("link of none", () -> d.link(0, 0, 0));
-    Packets.send(d, Packets.header(1, 1, 0));
-    for (int i : new int[] {-1, Integer.MIN_VALUE, Integer.MAX_VALUE, 100}) {
-      Check.outside("nothing", () -> d.nothing(i));
-      Check.outside("page", () -> d.page(i, 0));
-      Check.outside("page what", () -> d.page(0, i));
-      Check.outside("sign", () -> d.sign(i, 0, 0));
-      Check.outside("sign row", () -> d.sign(0, i, 0));
-      Check.outside("sign column", () -> d.sign(0, 0, i));
-      Check.outside("link", () -> d.link(i, 0, 0));
-      Check.outside("link k", () -> d.link(0, i, 0));
-      Check.outside("link what", () -> d.link(0, 0, i));
-      Check.outside("open", () -> d.open(i));
-    }
-    Check.outside("nothing 3", () -> d.nothing(3));
-    Check.outside("page 1", () -> d.page(1, 0));
-    Check.outside("page what 7", () -> d.page(0, 7));
-    Check.outside("sign 1", () -> d.sign(1, 0, 0));
-    Check.outside("sign row 25", () -> d.sign(0, 25, 0));
-    Check.outside("sign column 40", () -> d.sign(0, 0, 40));
-    Check.outside("link 1", () -> d.link(1, 0, 0));
-    Check.outside("link k 6", () -> d.link(0, 6, 0));
-    Check.outside("link what 3", () -> d.link(0, 0, 3));
-    Check.outside("open 0", () -> d.open(0));
-    Check.outside("open 9", () -> d.open(9));
-    Check.due("the last sign", 0, d.sign(0, 24, 39));
-    Check.due("open 8", -1, d.open(8));
   }
 }

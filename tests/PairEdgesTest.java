@@ -339,6 +339,7 @@ public final class PairEdgesTest {
     }
     Check.due("no CHANNEL of field 0", NONE, d.channel(0));
     Check.due("no CHANNEL of field 1", NONE, d.channel(1));
+    Check.due("NONE", -1, CaptionDesk.NONE);
   }
 
   /** "screen 0 SHOWN, 1 HIDDEN; its letter (what = 0), its look (1). IndexOutOfBoundsException: any" */

@@ -1,20 +1,14 @@
-/** Promises 1 to 5: pairs, cells, states and channels. */
+/** Captions as they come: ordinary runs for promises 2 to 5. PairEdgesTest and CodeEdgesTest have the edges. */
 public final class PairsTest {
   public static void main(String[] args) {
-    newObject();
-    wrongInputs();
-    rightBytes();
     passedCodes();
     channelsOfFields();
     letterPairs();
-    zeroPairs();
     modesOfPut();
-    lastColumn();
     rowCodes();
     rowCodesByMode();
     looks();
     specialLetters();
-    tabs();
     eraseBack();
     eraseOn();
     rollBegins();
@@ -22,77 +16,7 @@ public final class PairsTest {
     rollUp();
     rolledRowsMove();
     screens();
-    codesWithoutMeaning();
     Check.end("PairsTest");
-  }
-
-  private static void newObject() {
-    CaptionDesk d = new CaptionDesk();
-    int[] first = {0, 1, 0, 0, 2};
-    for (int c = 0; c < 4; c++) {
-      for (int what = 0; what < 5; what++) {
-        Check.due("new state " + c + " " + what, first[what], d.state(c, what));
-      }
-      for (int i = 0; i < 60; i++) {
-        Check.due("new cell", 0, d.cell(c, i % 2, 1 + i % 15, i % 32, i / 30));
-      }
-    }
-    Check.due("new channel 0", -1, d.channel(0));
-    Check.due("new channel 1", -1, d.channel(1));
-    Check.due("new pages", 0, d.pages());
-    Check.due("new cues", 0, d.cues());
-    for (int m = 1; m <= 8; m++) {
-      Check.due("new open", -1, d.open(m));
-    }
-    for (int what = 0; what < 3; what++) {
-      Check.due("new nothing", 0, d.nothing(what));
-    }
-    Check.throwing("new packet", IllegalStateException.class, () -> d.packet());
-    Check.due("new time", 3, d.tick(3));
-    Check.due("NONE", -1, CaptionDesk.NONE);
-  }
-
-  private static void wrongInputs() {
-    CaptionDesk d = new CaptionDesk();
-    int[] far = {-1, Integer.MIN_VALUE, Integer.MAX_VALUE};
-    for (int i : far) {
-      Check.outside("pair", () -> d.pair(i, 148, 32));
-      Check.outside("channel", () -> d.channel(i));
-      Check.outside("state channel", () -> d.state(i, 0));
-      Check.outside("state what", () -> d.state(0, i));
-      Check.outside("cell channel", () -> d.cell(i, 0, 1, 0, 0));
-      Check.outside("cell screen", () -> d.cell(0, i, 1, 0, 0));
-      Check.outside("cell row", () -> d.cell(0, 0, i, 0, 0));
-      Check.outside("cell column", () -> d.cell(0, 0, 1, i, 0));
-      Check.outside("cell what", () -> d.cell(0, 0, 1, 0, i));
-    }
-    Check.outside("pair 2", () -> d.pair(2, 148, 32));
-    Check.outside("channel 2", () -> d.channel(2));
-    Check.outside("state 4", () -> d.state(4, 0));
-    Check.outside("state what 5", () -> d.state(3, 5));
-    Check.outside("cell channel 4", () -> d.cell(4, 0, 1, 0, 0));
-    Check.outside("cell screen 2", () -> d.cell(0, 2, 1, 0, 0));
-    Check.outside("cell row 0", () -> d.cell(0, 0, 0, 0, 0));
-    Check.outside("cell row 16", () -> d.cell(0, 0, 16, 0, 0));
-    Check.outside("cell column 32", () -> d.cell(0, 0, 1, 32, 0));
-    Check.outside("cell what 2", () -> d.cell(0, 0, 1, 0, 2));
-    Check.due("the last cell", 0, d.cell(3, 1, 15, 31, 1));
-  }
-
-  private static void rightBytes() {
-    CaptionDesk d = new CaptionDesk();
-    Check.due("first not right", -1, d.pair(0, Caption.bad(20), Caption.right(32)));
-    Check.due("second not right", -1, d.pair(0, Caption.right(20), Caption.bad(32)));
-    Check.due("second below 32", -1, d.pair(0, Caption.right(20), Caption.right(31)));
-    Check.due("no channel yet", -1, d.channel(0));
-    Check.due("lowest eight bits", 0, d.pair(0, Caption.right(20) | 0x7F00, Caption.right(41) - 256));
-    Check.due("mode", 3, d.state(0, 0));
-    Check.due("letter not right", -1, d.pair(0, Caption.bad(65), Caption.right(66)));
-    Check.due("nothing put", 0, d.state(0, 2));
-    for (int sign = 1; sign < 16; sign++) {
-      Check.due("sign " + sign, -1, d.pair(0, Caption.right(sign), Caption.right(66)));
-    }
-    Check.due("nothing put by them", 0, d.state(0, 2));
   }
 
   private static void passedCodes() {
@@ -162,19 +86,6 @@ public final class PairsTest {
     Check.isTrue("what came", c.rowText(0, 1).equals("ABC\u007FE \u007F\u007F F\u007F"));
   }
 
-  private static void zeroPairs() {
-    Caption c = new Caption(0);
-    Check.due("zero to no channel", -1, c.desk.pair(0, 128, Caption.right(65)));
-    c.paint();
-    Check.due("zero and a letter", 9, c.desk.pair(0, 128, Caption.right(65)));
-    Check.due("zero and 32", 9, c.desk.pair(0, 128, Caption.right(32)));
-    Check.due("zero and 31", -1, c.desk.pair(0, 128, Caption.right(31)));
-    Check.due("zero and a spoilt one", -1, c.desk.pair(0, 128, Caption.bad(65)));
-    Check.due("zeros", -1, c.desk.pair(0, 128, 128));
-    Check.due("a spoilt zero", -1, c.desk.pair(0, 0, Caption.right(65)));
-    Check.isTrue("what came", c.rowText(0, 1).equals("A "));
-  }
-
   private static void modesOfPut() {
     Caption c = new Caption(0);
     c.pop();
@@ -199,24 +110,6 @@ public final class PairsTest {
     Check.due("shown by ROLL", 68, c.shown(15, 0));
     c.code(21, 32);
     Check.due("21 is as 20", 1, c.state(0));
-  }
-
-  private static void lastColumn() {
-    Caption c = new Caption(0);
-    c.paint();
-    c.row(4, 15, false);
-    Check.due("column 28", 28, c.state(2));
-    c.letters("abcd");
-    Check.due("column 32", 32, c.state(2));
-    Check.due("column 31", 'd', c.shown(4, 31));
-    c.letters("e");
-    Check.due("it stays", 32, c.state(2));
-    Check.due("put to 31", 'e', c.shown(4, 31));
-    Check.due("30 stays", 'c', c.shown(4, 30));
-    Check.due("nothing in the next row", 0, c.shown(5, 0));
-    c.code(18, 32);
-    Check.due("in its place", 272, c.shown(4, 31));
-    Check.due("32 again", 32, c.state(2));
   }
 
   private static void rowCodes() {
@@ -307,31 +200,6 @@ public final class PairsTest {
     c.code(19, 63);
     Check.due("by TEXT the column is one less", 2, c.state(2));
     Check.due("nothing put", 335, c.shown(2, 2));
-  }
-
-  private static void tabs() {
-    Caption c = new Caption(0);
-    c.paint();
-    c.code(23, 33);
-    Check.due("one", 1, c.state(2));
-    c.code(23, 34);
-    Check.due("two", 3, c.state(2));
-    c.code(23, 35);
-    Check.due("three", 6, c.state(2));
-    c.code(23, 32);
-    c.code(23, 36);
-    Check.due("no others", 6, c.state(2));
-    c.row(1, 15, false);
-    c.code(23, 34);
-    c.code(23, 35);
-    Check.due("31 at most", 31, c.state(2));
-    c.code(23, 33);
-    Check.due("31 still", 31, c.state(2));
-    c.letters("A");
-    c.code(23, 33);
-    Check.due("32 stays", 32, c.state(2));
-    c.code(22, 33);
-    Check.due("not by 22", 32, c.state(2));
   }
 
   private static void eraseBack() {
@@ -535,22 +403,5 @@ public final class PairsTest {
     Check.due("14 empties hidden", 0, c.hidden(1, 2));
     c.code2(20, 44);
     Check.due("of its channel alone", 66, c.shown(1, 1));
-  }
-
-  private static void codesWithoutMeaning() {
-    Caption c = new Caption(0);
-    c.paint();
-    c.row(8, 10, true);
-    c.letters("A");
-    int[][] codes = {{16, 32}, {16, 63}, {22, 32}, {22, 40}, {22, 63}, {23, 32}, {23, 36}, {23, 63},
-      {20, 34}, {20, 35}, {20, 40}, {21, 40}, {20, 48}, {20, 63}, {21, 55}};
-    for (int[] code : codes) {
-      Check.due("code", 0, c.code(code[0], code[1]));
-    }
-    int[] want = {3, 8, 9, 8, 2};
-    for (int what = 0; what < 5; what++) {
-      Check.due("state " + what, want[what], c.state(what));
-    }
-    Check.isTrue("the row", c.rowText(0, 8).equals("........A"));
   }
 }

@@ -262,7 +262,7 @@ public final class StoreEdgesTest {
     Check.due("never CLOSED", 0, d.cues());
   }
 
-  /** "The page that is OPEN is CLOSED" comes first: what goes then was CLOSED by the same header. */
+  /** "The page that is OPEN in its MAGAZINE is CLOSED" comes first: what goes then was CLOSED by the same header. */
   private static void openOneClosedBefore() {
     for (int way = 0; way < 2; way++) {
       CaptionDesk d = new CaptionDesk();
