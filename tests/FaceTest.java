@@ -74,12 +74,23 @@ public final class FaceTest {
     for (Class<?> c : CaptionDesk.class.getDeclaredClasses()) {
       Check.isTrue(c.getName() + " is static", Modifier.isStatic(c.getModifiers()));
       Check.isTrue(c.getName() + " is not public", !Modifier.isPublic(c.getModifiers()));
+      sizes(c);
       staticFieldsAreFinal(c);
       for (Method m : c.getDeclaredMethods()) {
         Check.isTrue(c.getName() + "." + m.getName(), !publicNames.contains(m.getName()));
       }
     }
+    sizes(CaptionDesk.class);
     staticFieldsAreFinal(CaptionDesk.class);
+  }
+
+  /** "A method takes at most seven parameters", "a class some twenty fields beside its constants" */
+  private static void sizes(Class<?> c) {
+    for (Method m : c.getDeclaredMethods()) {
+      Check.isTrue(m.getName() + " takes at most seven", m.getParameterCount() <= 7);
+    }
+    long fields = Arrays.stream(c.getDeclaredFields()).filter(f -> !Modifier.isStatic(f.getModifiers())).count();
+    Check.isTrue(c.getName() + " has at most twenty fields", fields <= 20);
   }
 
   private static void staticFieldsAreFinal(Class<?> c) {
